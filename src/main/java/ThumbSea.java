@@ -408,7 +408,8 @@ public final class ThumbSea {
         }
 
         boolean isA(int wanted) {
-            return wanted == ONE.number || wanted == number || (wanted == SHY.number && this == GONE);
+            return wanted == ONE.number || wanted == number
+                || (wanted == SHY.number && this == GONE);
         }
     }
 
@@ -564,12 +565,6 @@ public final class ThumbSea {
             return side != other.side && wouldBeContent(choosy, other.picture());
         }
 
-        boolean isPreferredTo(Person other) {
-            int mine = picture();
-            int theirs = other.picture();
-            return mine > theirs || (mine == theirs && number < other.number);
-        }
-
         boolean wentRightOn(Person other) {
             return (rights & other.bit) != 0;
         }
@@ -707,7 +702,6 @@ public final class ThumbSea {
         void readFrom(Page page) {
             int side = 0;
             size = 0;
-            first = 0;
             for (int place = 0; place < page.length && size < MOST_PEOPLE; place += Page.STEP) {
                 Person one = people[size];
                 one.kind = Kind.ofLetter(page.letterAt(place));
@@ -777,12 +771,16 @@ public final class ThumbSea {
             return false;
         }
 
-        /** All people into the row: by number, or by PICTURE, the greatest first. */
+        /**
+         * All people into the row: by number, or by PICTURE, the greatest first. They come by
+         * number, and pass only those whose PICTURE is less: so of like ones the lesser number is
+         * ahead.
+         */
         void putInOrder(int[] row, boolean byPicture) {
             for (int number = 0; number < size && number < row.length; number++) {
                 int place = number;
                 while (byPicture && place > 0
-                        && people[number].isPreferredTo(people[row[place - 1]])) {
+                        && people[number].picture() > people[row[place - 1]].picture()) {
                     row[place] = row[place - 1];
                     place--;
                 }

@@ -59,6 +59,13 @@ public final class AllTest {
         Check.same("see", x.see(0, 3, true), 2);
         Check.same("forget", x.forget(), 2);
         Check.same("see", x.see(2, 1, true), 1);
+        Check.same("see", x.see(2, 1, true), 2);
+        Check.same("shown already", x.show(2, 0), ThumbSea.STATE);
+        Check.same("back", x.back(2, 0), 0);
+        Check.same("choose", x.choose(2, 9), 7);
+        Check.same("choose", x.choose(0, 9), 0);
+        Check.same("part", x.part(1), 3);
+        Check.same("left", x.show(0, 3), 0);
 
         Check.same("restore", x.restore(), 1);
         Check.same("all is as it was", x.digest(), before);
@@ -104,6 +111,8 @@ public final class AllTest {
             Check.same("outside", Check.sea("o000;o000").count(what), ThumbSea.OUTSIDE);
         }
         ThumbSea x = Check.sea("o900,o900,g900;o900,o900,g900,g900");
+        Check.same("gone, the first one, too", Check.sea("g000;o000").count(4), 1);
+        Check.same("gone, the last one, too", Check.sea("o000;g000").count(4), 1);
         Check.same("right", x.show(0, 3), 1);
         Check.same("match", x.show(3, 0), 2);
         Check.same("right", x.show(1, 3), 1);

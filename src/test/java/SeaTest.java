@@ -151,6 +151,8 @@ public final class SeaTest {
         Check.same("meet", x.meet(0, 2), 1);
         Check.same("see", x.see(0, 2, true), 1);
         Check.same("limit", x.limit(2), 9);
+        Check.same("choose", x.choose(3, 9), 0);
+        Check.same("show", x.show(3, 1), 0);
         Check.same("day", x.day(), 1);
         Check.same("show", x.show(1, 3), 1);
         Check.same("image", x.image(), 1);
@@ -169,6 +171,7 @@ public final class SeaTest {
             Check.people(x, "another sea", what, 0, 0, 0, 0);
         }
         Check.people(x, "another sea", 6, -1, -1, -1, -1);
+        Check.people(x, "another sea", 3, 0, 0, 0, 0);
         Check.people(x, "another sea", 13, 1023, 1023, 1023, 1023);
     }
 }
