@@ -14,6 +14,24 @@ final class Check {
         }
     }
 
+    interface Call {
+        long on(ThumbSea x);
+    }
+
+    /** A call that is refused: with which answer, and that all that the digest tells is as it was. */
+    static void refused(String call, ThumbSea x, int want, Call asked) {
+        long before = x.digest();
+        same(call, asked.on(x), want);
+        same(call + ", refused, leaves the digest", x.digest(), before);
+    }
+
+    /** Asks for count(what) of each number, from 0. */
+    static void counts(ThumbSea x, String why, int... wants) {
+        for (int what = 0; what < wants.length; what++) {
+            same(why + ": count(" + what + ")", x.count(what), wants[what]);
+        }
+    }
+
     static void end() {
         System.out.println(asked + " answers, " + wrong + " not as due");
         if (wrong != 0 || asked == 0) {
