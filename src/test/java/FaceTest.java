@@ -19,10 +19,20 @@ public final class FaceTest {
         Integer.MAX_VALUE};
 
     public static void main(String[] args) throws Exception {
+        constants();
         members();
         randomCalls();
         noObjectIsMade();
         Check.end();
+    }
+
+    private static void constants() {
+        Check.same("NONE", ThumbSea.NONE, -1);
+        Check.same("UNKNOWN", ThumbSea.UNKNOWN, -101);
+        Check.same("OUTSIDE", ThumbSea.OUTSIDE, -102);
+        Check.same("STATE", ThumbSea.STATE, -103);
+        Check.same("FULL", ThumbSea.FULL, -104);
+        Check.same("constants", ThumbSea.class.getFields().length, 5);
     }
 
     private static void members() {

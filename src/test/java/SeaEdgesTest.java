@@ -14,6 +14,7 @@ public final class SeaEdgesTest {
         promise3Blank();
         promise4Fault();
         promise5Sea();
+        anotherSeaIsGone();
         promise6Person();
         promise7As();
         promise8Choose();
@@ -236,6 +237,41 @@ public final class SeaEdgesTest {
         Check.same("a sea now", x.sea(), 2);
         Check.counts(x, "another sea", 1, 1, 2, 0, 0, 0, 0, 0, 9, 0, 0, 0, 0, 0, 2);
         Check.refused("its image is gone", x, ThumbSea.STATE, y -> y.restore());
+    }
+
+    /** "another one is gone, with all that was": then all is told as of a new object's SEA. */
+    private static void anotherSeaIsGone() {
+        String text = "o900,h905,o900;o900,o809,e900";
+        ThumbSea x = Check.sea(text);
+        Check.same("right", x.show(0, 3), 1);
+        Check.same("match", x.show(3, 0), 2);
+        Check.same("meet", x.meet(0, 3), 1);
+        Check.same("right", x.show(2, 5), 1);
+        Check.same("match", x.show(5, 2), 2);
+        Check.same("right", x.show(1, 4), 1);
+        Check.same("back", x.back(1, 4), 1);
+        Check.same("limit", x.limit(1), 9);
+        Check.same("left", x.show(1, 4), 0);
+        Check.same("choose", x.choose(5, 9), 0);
+        Check.same("paint", x.paint(0, 3), 0);
+        Check.same("see", x.see(1, 4, false), 1);
+        Check.same("image", x.image(), 0);
+        Check.same("day", x.day(), 1);
+        Check.same("right", x.show(1, 5), 1);
+        ThumbSea fresh = Check.sea(text);
+        Check.write(x, text);
+        Check.same("another sea", x.sea(), 6);
+        for (int person = 0; person < 6; person++) {
+            for (int what = 0; what <= 14; what++) {
+                Check.same("person " + person + " " + what, x.person(person, what),
+                    fresh.person(person, what));
+            }
+        }
+        for (int what = 0; what <= 13; what++) {
+            Check.same("count " + what, x.count(what), fresh.count(what));
+        }
+        Check.same("read twice", x.count(14), 2);
+        Check.refused("no image", x, ThumbSea.STATE, y -> y.restore());
     }
 
     /** People who lived a little: 0 and 3 a couple, 1 went left, 2 is eager, 4 is gone. */

@@ -13,6 +13,7 @@ public final class ToldEdgesTest {
         promise23Forget();
         promise24Seasons();
         seedsWrapAround();
+        drawsOfEachSide();
         promise25Image();
         promise26Restore();
         imageKeepsEach();
@@ -94,6 +95,11 @@ public final class ToldEdgesTest {
                 Check.same("so none to ask", x.person(1, 14), ThumbSea.NONE);
             }
         }
+        ThumbSea second = Check.sea("o300,o500;o000");
+        Check.same("see the first of all", second.see(2, 0, false), 1);
+        Check.same("more than 3", second.person(2, 13), 1023 - 15);
+        Check.same("see", second.see(2, 1, true), 2);
+        Check.same("4 and 5", second.person(2, 13), 48);
         ThumbSea between = Check.sea("o000;o300,o400");
         Check.same("see", between.see(0, 1, false), 1);
         Check.same("see", between.see(0, 2, true), 2);
@@ -188,6 +194,28 @@ public final class ToldEdgesTest {
                 Check.same("seed " + seed + " behind " + times, got, now.longValueExact());
             }
         }
+    }
+
+    /** "by a DRAW of how many there are": the first and the last of each SIDE are drawn, too. */
+    private static void drawsOfEachSide() {
+        // by how much two are apart tells which two they are
+        ThumbSea x = Check.sea("o000,o100;o300,o500,o700,o900");
+        boolean[] drawn = new boolean[10];
+        for (int seed = 0; seed < 60; seed++) {
+            long next = (1103515245L * seed + 12345) % 2147483648L;
+            int one = (int) (next / 65536 % 2);
+            next = (1103515245L * next + 12345) % 2147483648L;
+            int other = 3 + 2 * (int) (next / 65536 % 4);
+            Check.same("they like each other", x.seasons(1, seed, 0), 1);
+            Check.same("apart by seed " + seed, x.seasons(1, seed, 1), other - one);
+            drawn[other - one] = true;
+        }
+        for (int apart = 2; apart <= 9; apart++) {
+            Check.same("two who are apart by " + apart, drawn[apart] ? 1 : 0, 1);
+        }
+        ThumbSea y = Check.sea("o500;o200");
+        Check.same("apart, whoever is worth more", y.seasons(60, 3, 1), 180);
+        Check.same("alike", Check.sea("o500;o500").seasons(60, 3, 1), 0);
     }
 
     /** "how many DAYS were over. STATE: no SEA." (one; the latest) */
@@ -404,7 +432,10 @@ public final class ToldEdgesTest {
     private static void promise28Digest() {
         String page = FULL_SEA + " ~";
         ThumbSea[] seas = {new ThumbSea(), Check.page(page), Check.sea("g000;g000"),
-            Check.sea(FULL_SEA), Check.sea(FULL_SEA), lived(), seen(8)};
+            Check.sea(FULL_SEA), Check.sea(FULL_SEA), lived(), seen(8),
+            Check.sea("g421,s738,e706;o522")};
+        Check.same("best by number", seas[7].best(3, 0), 3);
+        Check.same("best by picture is another one", seas[7].best(3, 1), 2);
         Check.write(seas[4], page);
         for (int i = 0; i < seas.length; i++) {
             String letters = i == 1 || i == 4 ? page : "";

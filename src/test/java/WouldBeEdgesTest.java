@@ -185,6 +185,24 @@ public final class WouldBeEdgesTest {
         long before = x.digest();
         Check.same("as if nothing was", x.comes(1, 9, 0), due);
         Check.same("all stays", x.digest(), before);
+
+        ThumbSea hasty = Check.sea("h001;o000,o100");
+        for (int left = 0; left < 2; left++) {
+            Check.same("left", hasty.show(0, 1), 0);
+            Check.same("back", hasty.back(0, 1), 0);
+        }
+        Check.same("by picture the liked one is first", hasty.comes(1, 1, 1), 1);
+        Check.same("two lefts in a row", hasty.person(0, 11), 2);
+
+        ThumbSea match = Check.sea("o000;o000");
+        Check.same("right", match.show(0, 1), 1);
+        Check.same("match", match.show(1, 0), 2);
+        Check.same("choose", match.choose(0, 1), 0);
+        Check.same("a match that would not be", match.comes(8, 9, 0), 0);
+        Check.same("back", match.back(0, 1), 1);
+        Check.same("left", match.show(0, 1), 0);
+        Check.same("choose", match.choose(0, 0), 1);
+        Check.same("one that would be", match.comes(1, 1, 0), 1);
     }
 
     /** "by which LIMIT most: the least. OUTSIDE: days (1 to 8), order (0, 1); STATE: no SEA." */
