@@ -15,6 +15,7 @@ public final class SeaEdgesTest {
         promise4Fault();
         promise5Sea();
         anotherSeaIsGone();
+        nobodyOfAGreaterSeaIsLeft();
         promise6Person();
         promise7As();
         promise8Choose();
@@ -272,6 +273,33 @@ public final class SeaEdgesTest {
         }
         Check.same("read twice", x.count(14), 2);
         Check.refused("no image", x, ThumbSea.STATE, y -> y.restore());
+    }
+
+    /** Those of a greater SEA, whose pictures are greater, are in nothing that is told of a lesser one. */
+    private static void nobodyOfAGreaterSeaIsLeft() {
+        String greater = "o930,o930,o930,o930;o930,o930,o930,o930";
+        String[] lesser = {"o000;o000", "o000,o000;o000", "o001;o100,o010,o109,o209", "h001;o100,o000"};
+        for (String text : lesser) {
+            ThumbSea x = Check.sea(greater);
+            Check.write(x, text);
+            Check.same("a lesser sea", x.sea(), (text.length() + 1) / 5);
+            ThumbSea fresh = Check.sea(text);
+            for (int what : new int[] {0, 1, 10, 11, 12, 13}) {
+                Check.same(text + " lasting " + what, x.lasting(what), fresh.lasting(what));
+            }
+            for (int order = 0; order <= 1; order++) {
+                for (int days = 1; days <= 2; days++) {
+                    Check.same(text + " comes", x.comes(days, 9, order), fresh.comes(days, 9, order));
+                    Check.same(text + " best", x.best(days, order), fresh.best(days, order));
+                }
+            }
+            Check.same(text + " mutual", x.mutual(), fresh.mutual());
+            Check.same(text + " seasons", x.seasons(60, 1, 1), fresh.seasons(60, 1, 1));
+            for (int person = 0; person < 8; person++) {
+                Check.same(text + " person", x.person(person, 7), fresh.person(person, 7));
+                Check.same(text + " person", x.person(person, 14), fresh.person(person, 14));
+            }
+        }
     }
 
     /** People who lived a little: 0 and 3 a couple, 1 went left, 2 is eager, 4 is gone. */
