@@ -3,8 +3,10 @@ import java.util.Arrays;
 
 /** Promises 1 to 28: long runs of calls, at and about the edges, each compared with PlainSea. */
 public final class PlainSeaTest {
-    /** An object is used for at most 512 calls; one step of a run takes at most 80. */
-    private static final int LAST_STEP = 512 - 80;
+    /** An object is used for at most 512 calls: every run has so many. */
+    private static final int MOST_CALLS = 512;
+    /** One step of a run takes at most 80; behind the last one there are single calls alone. */
+    private static final int LAST_STEP = MOST_CALLS - 80;
     /** Each call with the ranges of its arguments; "p" is a person, "b" yes or no. */
     private static final String[] CALLS = {"letter 32-126", "blank", "fault", "sea", "person p 0-14",
         "as p 0-4", "choose p 0-9", "paint p 0-3", "limit 1-9", "show p p", "back p p", "day",
@@ -34,6 +36,7 @@ public final class PlainSeaTest {
             } else {
                 test.live();
             }
+            test.untilTheLastCall();
         }
         Check.end();
     }
@@ -76,9 +79,17 @@ public final class PlainSeaTest {
                 call(from[random.below(from.length)]);
             }
         }
+    }
+
+    private void untilTheLastCall() throws Exception {
+        while (calls < MOST_CALLS - 3) {
+            call(random.below(2) == 0 ? LIVING[random.below(LIVING.length)]
+                : CALLS[random.below(CALLS.length)]);
+        }
         call("digest");
         call("restore");
         call("digest");
+        Check.same("calls of a run", calls, MOST_CALLS);
     }
 
     private void newSea() throws Exception {
